@@ -237,6 +237,12 @@ public final class PanelTest {
         check.due("FATIGUE 6 still", h.ofPerson(1, 2), 6);
         check.due("the DAY still", h.many(11), 0);
         check.due("next()", h.next(), -1);
+        h.day();
+        check.due("FATIGUE 5, next()", h.next(), -1);
+        check.due("FATIGUE 5, ofCell(0, 1, 4)", h.ofCell(0, 1, 4), 0);
+        h.day();
+        check.due("FATIGUE 4, next()", h.next(), 1);
+        check.due("FATIGUE 4, ofCell(0, 1, 4)", h.ofCell(0, 1, 4), 1);
     }
 
     public static void main(String[] args) {

@@ -247,7 +247,23 @@ public final class InterviewsEdgesTest {
         Scene turned = Scene.of(4, 1, 1).rotate(3);
         toClean("4 by ROTATION", turned.interview(0, 9, 1, 1, 1, 1), 1);
         toClean("4 by ROTATION, another behind it", turned.interview(0, 9, 1, 1, 1, 0), 0);
+        Scene two = Scene.of(4, 2, 2).interview(0, 9, 1, 1, 1, 1).interview(1, 9, 0, 0, 0, 1);
+        edges.asks(two, "a line ahead of another INTERVIEW: ofInterview(0, 6)", h -> h.ofInterview(0, 6), 1);
+        edges.asks(two, "behind a line: ofInterview(1, 6)", h -> h.ofInterview(1, 6), 0);
+        edges.due(two, "clean()", h -> h.clean(), 1);
         toClean("a line, and fast", Scene.of(4, 1, 1).interview(0, 1, 1, 1, 1, 1), 1);
+    }
+
+    /** Four QUESTIONS; of 39 INTERVIEWS each is a line, and CLEANED. */
+    private static void lastOfForty() {
+        Scene scene = Scene.of(4, 20, 9);
+        for (int k = 0; k < 39; k++) {
+            scene = scene.interview(k % 20, 9, 1, 1, 1, 1).clean();
+        }
+        edges.due(scene.interview(19, 9, 1, 1, 1, 1), "ofInterview(39, 6), a line", h -> h.ofInterview(39, 6), 1);
+        edges.due(scene.interview(19, 9, 1, 1, 1, 1), "clean(), a line", h -> h.clean(), 1);
+        edges.due(scene.interview(19, 9, 1, 1, 1, 0), "ofInterview(39, 6), no line", h -> h.ofInterview(39, 6), 0);
+        edges.due(scene.interview(19, 9, 1, 1, 1, 0), "clean(), no line", h -> h.clean(), 0);
     }
 
     private static void completeAlone() {
@@ -429,6 +445,7 @@ public final class InterviewsEdgesTest {
         atTheEnd();
         tooFast();
         straightLine();
+        lastOfForty();
         completeAlone();
         howManyCleaned();
         ofInterviews();

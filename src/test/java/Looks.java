@@ -10,6 +10,10 @@ final class Looks {
     private static final int LOOKS = 11;
     private static final int MOST_CALLS = 512;
 
+    /** What the document lets calls throw; what the machine itself throws is below these, or not among them. */
+    private static final List<String> NAMED = List.of("throws " + Check.INDEX.getName(),
+            "throws " + Check.ARGUMENT.getName(), "throws " + Check.STATE.getName());
+
     private final SurveyHouse house;
     private final List<String> seen;
     private int asked = 0;
@@ -39,6 +43,9 @@ final class Looks {
     private String ask(String call, Check.Call action) {
         asked++;
         String answer = Check.outcome(action);
+        if (answer.startsWith("throws") && !NAMED.contains(answer)) {
+            throw new IllegalStateException(call + " " + answer + ", which is not for it to throw");
+        }
         seen.add(call + " answered " + answer);
         return answer;
     }

@@ -271,6 +271,9 @@ public final class PanelEdgesTest {
         next("FATIGUE 1, 0, 0", 1, tire(three, 0).days(1));
         next("FATIGUE 0, 0, 0", 0, tire(three, 0).days(2));
         next("FATIGUE 2, 2, 0", 2, tire(tire(three, 0), 1));
+        next("FATIGUE 0, 2, 2", 0, tire(tire(three, 1), 2));
+        next("FATIGUE 0, 1, 1", 0, tire(tire(three, 1), 2).days(1));
+        next("FATIGUE 2, 0, 2", 1, tire(tire(three, 0), 2));
         next("FATIGUE 2, 2, 2", 0, tire(tire(tire(three, 1), 2), 0));
         next("FATIGUE 3, 2, 2", 1, tire(tire(tire(tire(three, 0).days(1), 0), 1), 2));
         next("FATIGUE 4, 4, 3", 2, tire(tire(tire(tire(tire(tire(three, 2).days(1), 2), 0), 0), 1), 1));

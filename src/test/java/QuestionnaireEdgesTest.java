@@ -338,6 +338,14 @@ public final class QuestionnaireEdgesTest {
         edges.asks(ten.route(0, 0, 9).route(0, 1, 9).rotate(3), "shortest(0), ROTATION 3", h -> h.shortest(0), 2);
         edges.asks(ten.route(3, 4, -1), "shortest(3), by the last of 5 ANSWERS", h -> h.shortest(3), 1);
         edges.asks(ten.route(0, 0, 5).route(1, 0, 9), "shortest(0), by the other way", h -> h.shortest(0), 3);
+        edges.asks(ten.route(0, 0, 2).route(0, 1, 2).route(1, 0, -1), "shortest(0), past a short one",
+                h -> h.shortest(0), 9);
+        Scene wide = Scene.empty().questions(5, 5, 5, 5, 5, 5, 5, 5, 5, 5);
+        for (int k = 0; k < 5; k++) {
+            wide = wide.route(0, k, 2);
+        }
+        edges.asks(wide.route(1, 0, -1), "shortest(0), of 5 ANSWERS, past a short one", h -> h.shortest(0), 9);
+        edges.asks(wide.route(1, 0, -1), "shortest(9), of 5 ANSWERS", h -> h.shortest(9), 1);
         edges.sentence("Throws `IndexOutOfBoundsException` if there is no such QUESTION");
         for (int count : new int[] {0, 1, 2, 9, 10}) {
             edges.bounds(questions(count), "shortest(#), of " + count, 0, count - 1, Edges.INDEX,

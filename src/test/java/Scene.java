@@ -49,10 +49,11 @@ final class Scene {
 
     /**
      * All that goes into a house: 10 QUESTIONS, 24 PEOPLE, a TARGET of 9 for each CELL, 40 INTERVIEWS, 5 reports.
-     * 16 INTERVIEWS are CLEANED, of the others two are RUNNING, two OUT, and 20 COMPLETE; there is room for those.
+     * 16 INTERVIEWS are CLEANED, of the others two are RUNNING, two OUT, and 20 COMPLETE: one of these with an ANSWER
+     * to each QUESTION in 4 SECONDS each, nine with one in 3 SECONDS, ten with two in 4 SECONDS each.
      */
     static Scene full() {
-        Scene scene = empty().questions(5, 4, 3, 2, 5, 4, 3, 2, 5, 4).route(0, 4, -1).route(0, 3, 9).route(9, 1, -1);
+        Scene scene = empty().questions(5, 4, 3, 2, 5, 4, 3, 2, 5, 5).route(0, 4, -1).route(0, 3, 9).route(9, 1, -1);
         for (int k = 0; k < 24; k++) {
             scene = scene.people(k % 3, k % 2, 1);
         }
@@ -62,7 +63,8 @@ final class Scene {
         }
         scene = scene.clean();
         for (int k = 0; k < 20; k++) {
-            scene = k % 2 == 0 ? scene.interview(k, 3, 4) : scene.interview(k, 4, 3, k % 4);
+            scene = k == 18 ? scene.interview(k, 4, 0, 1, 2, 1, 0, 1, 2, 1, 0, 4)
+                    : k % 2 == 0 ? scene.interview(k, 3, 4) : scene.interview(k, 4, 3, k % 4);
         }
         scene = scene.begin(20).begin(21).begin(22).begin(23);
         for (int k = 0; k < 5; k++) {

@@ -160,7 +160,7 @@ public final class TablesEdgesTest {
                     (h, n) -> h.share(0, n, -1));
         }
         edges.bounds(plain(), "share(0, 0, #)", -1, 2, Edges.INDEX, (h, n) -> h.share(0, 0, n));
-        edges.bounds(Scene.full(), "share(9, 3, #)", -1, 2, Edges.INDEX, (h, n) -> h.share(9, 3, n));
+        edges.bounds(Scene.full(), "share(9, 4, #)", -1, 2, Edges.INDEX, (h, n) -> h.share(9, 4, n));
         edges.refused(plain(), "share of nothing", h -> h.share(MOST, MOST, MOST), Edges.INDEX);
         edges.refused(plain(), "share of nothing", h -> h.share(LEAST, LEAST, LEAST), Edges.INDEX);
     }
@@ -364,6 +364,15 @@ public final class TablesEdgesTest {
         edges.asks(held(three(0, 1, 6, 0).rounds(3), 1).rounds(2), "held(0, 1, 1), WEIGHT 0", h -> h.held(0, 1, 1), -1);
         edges.asks(held(poll(1, 3, 0, 0), 5), "held(4, 0, 0), 1 of 3", h -> h.held(4, 0, 0), 33);
         edges.asks(held(poll(1, 3, 0, 0), 5), "held(4, 0, 2), 0 of 3", h -> h.held(4, 0, 2), 0);
+        Scene wide = Scene.empty().questions(5, 5, 5, 5, 5, 5, 5, 5, 5, 5).people(0, 0, 1).target(0, 0, 1)
+                .interview(0, 5, 4, 0, 4, 0, 4, 0, 4, 0, 4, 4);
+        for (int k = 0; k < 5; k++) {
+            int report = k;
+            edges.asks(held(wide, 5), "held(" + k + ", 9, 4), the last one", h -> h.held(report, 9, 4), 100);
+            edges.asks(held(wide, 5), "held(" + k + ", 9, 3)", h -> h.held(report, 9, 3), 0);
+            edges.asks(held(wide, 5), "held(" + k + ", 0, 0), the first one", h -> h.held(report, 0, 0), 0);
+            edges.asks(held(wide, 5), "held(" + k + ", 0, 4)", h -> h.held(report, 0, 4), 100);
+        }
     }
 
     private static void meanSeconds() {
@@ -383,6 +392,7 @@ public final class TablesEdgesTest {
         edges.asks(two.interview(0, 9, 1).interview(1, 3, 0, 0), "meanSeconds(), 15 for 3", h -> h.meanSeconds(), 5.0);
         edges.asks(two.interview(0, 4, 1).interview(1, 3, 0, 0), "meanSeconds(), 10 for 3",
                 h -> h.meanSeconds(), 10.0 / 3.0);
+        edges.asks(Scene.full(), "meanSeconds(), 147 for 39, in a full house", h -> h.meanSeconds(), 147.0 / 39.0);
     }
 
     /** The numbers of which digest() is made, each group from a house of its own. */
@@ -429,12 +439,31 @@ public final class TablesEdgesTest {
         return all;
     }
 
+    /** INTERVIEWS of one ANSWER in 1 SECOND each, COMPLETE, so many of the CELLS 0 0, 1 0 and 2 0, which are FILLED. */
+    private static Scene tooFast(int... counts) {
+        Scene scene = Scene.empty().questions(2);
+        int person = 0;
+        for (int a = 0; a < counts.length; a++) {
+            scene = scene.people(a, 0, counts[a]).target(a, 0, counts[a]);
+            for (int k = 0; k < counts[a]; k++) {
+                scene = scene.interview(person, 1, 0);
+                person++;
+            }
+        }
+        return scene;
+    }
+
+    /** The PERSON 0 of two, who would be NEXT from so many DAYS on, 3 or 4, and not ahead of that. */
+    private static Scene rested(int days) {
+        return Scene.of(1, 2, 1).interview(0, 1, 0).clean().days(4 - days).interview(0, 1, 0).clean();
+    }
+
     private static void digest() {
         edges.sentence("A number d starts with 58114; for each of the following numbers v, d becomes d * 31 + v, "
                 + "which wraps around as a 64-bit integer");
         Scene[] scenes = {Scene.empty(), Scene.of(1, 0, 0), Scene.of(0, 1, 1), Scene.of(1, 24, 9), Scene.of(10, 24, 9),
             Scene.inState(0), Scene.inState(1), Scene.inState(2), Scene.inState(3), three(0, 1, 6, 0), plain(),
-            poll(2, 4, 1, 5), Scene.full(), Scene.full().days(3)};
+            poll(2, 4, 1, 5), Scene.full(), Scene.full().days(3), tooFast(3, 4, 5), rested(3), rested(4)};
         for (Scene scene : scenes) {
             BigInteger d = BigInteger.valueOf(58114);
             for (long v : numbers(scene)) {
@@ -442,6 +471,12 @@ public final class TablesEdgesTest {
             }
             edges.asks(scene, "digest()", h -> h.digest(), d.longValue());
         }
+        edges.sentence("next(), off(), cleaned(), nextIn() of 3.");
+        edges.asks(tooFast(3, 4, 5), "cleaned(), of that digest()", h -> h.cleaned(), 312);
+        edges.asks(rested(3), "nextIn(2), not of that digest()", h -> h.nextIn(2), 1);
+        edges.asks(rested(3), "nextIn(3), of that digest()", h -> h.nextIn(3), 0);
+        edges.asks(rested(4), "nextIn(3), of that digest()", h -> h.nextIn(3), 1);
+        edges.asks(rested(4), "nextIn(4), not of that digest()", h -> h.nextIn(4), 0);
     }
 
     private static void nothingIsChanged() {
